@@ -591,7 +591,13 @@ public final class CubeForms {
             for (int s = 0; s < MOST_SIDES; s++) {
                 used[s] = 0;
             }
-            for (int p = 0; next == Form.LISTS && p < places; p++) {
+            if (next == Form.LISTS) {
+                useNotZero();
+            }
+        }
+
+        private void useNotZero() {
+            for (int p = 0; p < places; p++) {
                 if (values[p] != 0) {
                     use(p);
                 }
@@ -735,7 +741,7 @@ public final class CubeForms {
             }
             for (int s = 0; s < c.sides; s++) {
                 int stride = c.stride[s];
-                int block = stride * c.length[s];
+                int block = Math.max(1, stride * c.length[s]);
                 for (int begin = 0; begin < c.places; begin += block) {
                     for (int p = begin + stride; p < begin + block; p++) {
                         upTo[p] += upTo[p - stride];
@@ -1131,7 +1137,6 @@ public final class CubeForms {
 
         private boolean readLengths(Cube into) {
             int places = 1;
-            into.sides = 0;
             for (int s = 0; s == 0 || s <= MOST_SIDES && isDigitNext(); s++) {
                 int length = takeNumber(1, MOST_LENGTH);
                 if (length == NONE) {

@@ -143,6 +143,7 @@ public final class PromiseTest {
         textFault("   ", 1, 3);
         textFault("side 2;", 1, 0);
         textFault(" sidess 2;", 1, 1);
+        textFault("sidesz 2;", 1, 0);
         textFault("Sides 2;", 1, 0);
         textFault("sides;", 1, 5);
         textFault("sides", 1, 5);
@@ -648,6 +649,10 @@ public final class PromiseTest {
         CubeForms x = Check.cube(FOUR_BY_THREE);
         Check.due("20: a row", x.slab(0, 1), -2);
         Check.due("20: a column", x.slab(1, 2), -1);
+        Check.due("20: the first row", x.slab(0, 0), 5);
+        Check.due("20: the last row", x.slab(0, 3), 7);
+        x.form(4);
+        Check.due("20: in LISTS", x.slab(1, 0), 5);
         Check.refused("20: x", () -> x.slab(1, 3), Check.NO_SUCH);
         Check.refused("20: x", () -> x.slab(1, -1), Check.NO_SUCH);
         Check.refused("20: side", () -> x.slab(2, 0), Check.NO_SUCH);
@@ -686,6 +691,7 @@ public final class PromiseTest {
         for (int edge = 1; edge <= byEdge.length; edge++) {
             Check.due("22: edge " + edge, x.cost(2, edge), byEdge[edge - 1]);
         }
+        Check.due("22: edge 16", x.cost(2, 16), 15);
         Check.refused("22: edge 0 of BOXES", () -> x.cost(2, 0), Check.ARGUMENT);
         Check.refused("22: edge 17 of BOXES", () -> x.cost(2, 17), Check.ARGUMENT);
         Check.refused("22: edge 1 of others", () -> x.cost(1, 1), Check.ARGUMENT);
@@ -900,5 +906,7 @@ public final class PromiseTest {
         Check.due("no box", x.least(1, 0), -1);
         x.add(511, 1);
         Check.due("the last box", x.least(1, 1), 511);
+        x.add(0, 1);
+        least(x, 2, 512, 0, 511);
     }
 }
