@@ -359,10 +359,6 @@ public final class CubeForms {
      */
     private enum Form {
         PLAIN(0) {
-            int written(Cube c, int s, int x) {
-                return 1;
-            }
-
             int read(Cube c, int s, int from, int to) {
                 return to - from + 1;
             }
