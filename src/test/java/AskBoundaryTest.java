@@ -160,7 +160,7 @@ public final class AskBoundaryTest {
         }
     }
 
-    /** In a cube of 2 by 2 by 2 there is a box, if no bit of the first place is none of the other. */
+    /** In a cube of 2 by 2 by 2 there is a box, if the last place has all bits of the first. */
     private static void boxes() {
         Twins.Maker maker = () -> {
             CubeForms x = Check.cube("sides 2 2 2;");

@@ -85,6 +85,25 @@ final class Check {
         return x.mix(put(x, text));
     }
 
+    /** A cube of six places with a mix, four acts and USED x, so that any change is seen. */
+    static CubeForms rich() {
+        CubeForms x = cube("sides 2 3;cell 1 2:9;");
+        x.edge(2);
+        x.form(4);
+        x.add(1, 0);
+        tellMix(x, "add 1;again 2[sum 0 5;];");
+        return x;
+    }
+
+    /** The same with so many times twenty blanks on its tape. */
+    static CubeForms fed(int times) {
+        CubeForms x = rich();
+        for (int i = 0; i < times; i++) {
+            x.feed(0x20202020, 0x20202020, 0x20202020, 0x20202020, 0x20202020);
+        }
+        return x;
+    }
+
     /** All that the object tells of itself without being changed, as one number. */
     static long whole(CubeForms x) {
         long all = x.print();

@@ -33,18 +33,8 @@ public final class MixBoundaryTest {
         Check.end("MixBoundaryTest");
     }
 
-    /** A cube with a mix, acts and USED x, so that a change of any of them is seen. */
-    private static CubeForms rich() {
-        CubeForms x = Check.cube("sides 2 3;cell 1 2:9;");
-        x.edge(2);
-        x.form(4);
-        x.add(1, 0);
-        Check.tellMix(x, "add 1;again 2[sum 0 5;];");
-        return x;
-    }
-
     private static CubeForms richWith(String text) {
-        CubeForms x = rich();
+        CubeForms x = Check.rich();
         Check.put(x, text);
         return x;
     }
@@ -125,7 +115,7 @@ public final class MixBoundaryTest {
         bad("again1[" + "add1;".repeat(39) + "];add1;", 4, 204);
         good("again0[" + "add1;".repeat(38) + "];again0[];", 40);
         good("again0[];".repeat(30), 30);
-        CubeForms x = rich();
+        CubeForms x = Check.rich();
         for (int i = 0; i < 3; i++) {
             Check.due("4: counted anew", Check.tellMix(x, FORTY), 40);
         }
@@ -189,7 +179,7 @@ public final class MixBoundaryTest {
     /** What a faulty mix left open is not open in the next one. */
     private static void bracketsAreForgotten() {
         for (String open : new String[] {"again 1[", "again 1[again 1[again 1[add 1;"}) {
-            CubeForms x = rich();
+            CubeForms x = Check.rich();
             Check.tellMix(x, open);
             Check.due("4: a fault", x.fault(), open.length());
             Check.due("4: a mix behind it", Check.tellMix(x, "add 1;"), 1);
@@ -281,25 +271,17 @@ public final class MixBoundaryTest {
         bad("again 1[" + " ".repeat(292), 1, 300);
     }
 
-    private static CubeForms fed(int times) {
-        CubeForms x = rich();
-        for (int i = 0; i < times; i++) {
-            x.feed(0x20202020, 0x20202020, 0x20202020, 0x20202020, 0x20202020);
-        }
-        return x;
-    }
-
     private static void lengthOfAMixThatIsNone() {
         for (int times : new int[] {0, 1, 14, 15, 16, 20}) {
             int bytes = 20 * times;
             for (int n : new int[] {-1, bytes + 1, 301, 320, 400, 401, MOST, LEAST}) {
-                Twins.refused("4: mix(" + n + ") of " + bytes, () -> fed(times), x -> x.mix(n),
-                        Check.ARGUMENT);
+                Twins.refused("4: mix(" + n + ") of " + bytes, () -> Check.fed(times),
+                        x -> x.mix(n), Check.ARGUMENT);
             }
-            CubeForms x = fed(times);
+            CubeForms x = Check.fed(times);
             Twins.answered("4: the most of " + bytes, x, c -> c.mix(Math.min(300, bytes)), 0);
             Check.due("4: all of the tape is empty", x.told(8), 0);
-            CubeForms y = fed(times);
+            CubeForms y = Check.fed(times);
             Twins.answered("4: mix(0) of " + bytes, y, c -> c.mix(0), 0);
             Check.due("4: all of the tape is empty", y.told(8), 0);
         }
@@ -308,7 +290,7 @@ public final class MixBoundaryTest {
     }
 
     private static void whatAMixChanges() {
-        CubeForms x = rich();
+        CubeForms x = Check.rich();
         long print = x.print();
         Check.due("4: another mix", Check.tellMix(x, "add 0;add 0;add 0;add 0;"), 4);
         Check.due("4: no NUMBER is touched", x.print(), print);
@@ -324,7 +306,7 @@ public final class MixBoundaryTest {
     }
 
     private static void mixBehind(String what, Twins.Ask act, int steps, int kind) {
-        CubeForms x = rich();
+        CubeForms x = Check.rich();
         Check.refused(what, () -> act.of(x), kind);
         Check.due(what + ": STEPS", x.told(7), steps);
         for (int form = 0; form < 5; form++) {
@@ -346,7 +328,7 @@ public final class MixBoundaryTest {
         mixBehind("edge", x -> x.edge(1), 3, Check.NOTHING);
         mixBehind("add", x -> x.add(0, 1), 3, Check.NOTHING);
         mixBehind("undo of an add", CubeForms::undo, 3, Check.NOTHING);
-        CubeForms y = rich();
+        CubeForms y = Check.rich();
         for (int i = 0; i < 3; i++) {
             y.undo();
             Check.due("11: SIDES are the same", y.told(7), 3);
@@ -455,31 +437,31 @@ public final class MixBoundaryTest {
     private static void formAndEdgeOfACost() {
         for (int form : new int[] {0, 1, 3, 4}) {
             for (int edge : new int[] {-1, 1, 2, 4, 16, 17, MOST, LEAST}) {
-                Twins.refused("22: cost(" + form + ", " + edge + ")", MixBoundaryTest::rich,
+                Twins.refused("22: cost(" + form + ", " + edge + ")", Check::rich,
                         x -> x.cost(form, edge), Check.ARGUMENT);
             }
         }
         for (int edge : new int[] {0, -1, 17, MOST, LEAST}) {
-            Twins.refused("22: cost(2, " + edge + ")", MixBoundaryTest::rich,
+            Twins.refused("22: cost(2, " + edge + ")", Check::rich,
                     x -> x.cost(2, edge), Check.ARGUMENT);
         }
         for (int form : new int[] {-1, 5, MOST, LEAST}) {
             for (int edge : new int[] {0, 1, 16}) {
-                Twins.refused("22: cost(" + form + ", " + edge + ")", MixBoundaryTest::rich,
+                Twins.refused("22: cost(" + form + ", " + edge + ")", Check::rich,
                         x -> x.cost(form, edge), Check.ARGUMENT);
             }
         }
-        // The mix of rich(): an add at place 1 (0 1), two sums of all; USED is 1 2, taken on anew.
+        // An add at place 1 (0 1), two sums of all; USED is 1 2, as it is taken on anew.
         long[] want = {13, 4 + 2, 0, 2 + 2 * 2, 3 + 2 * 4};
         for (int form : new int[] {0, 1, 3, 4}) {
-            Twins.asked("22: cost(" + form + ", 0)", MixBoundaryTest::rich, x -> x.cost(form, 0),
+            Twins.asked("22: cost(" + form + ", 0)", Check::rich, x -> x.cost(form, 0),
                     want[form]);
         }
         // Edge 1: 2 by 2 are WRITTEN, 2 by 2 READ; edge 2: 2 by 2, 1 by 2; from 3 on 2 by 2, 1.
         for (int edge = 1; edge <= 16; edge++) {
             int e = edge;
             long due = edge == 1 ? 4 + 2 * 4 : edge == 2 ? 4 + 2 * 2 : 4 + 2;
-            Twins.asked("22: cost(2, " + e + ")", MixBoundaryTest::rich, x -> x.cost(2, e), due);
+            Twins.asked("22: cost(2, " + e + ")", Check::rich, x -> x.cost(2, e), due);
         }
     }
 
@@ -545,10 +527,10 @@ public final class MixBoundaryTest {
         x.edge(16);
         Check.due("23: by edge 16", x.cheapest(0), 3);
         for (int what : new int[] {-1, 2, MOST, LEAST}) {
-            Twins.refused("23: cheapest(" + what + ")", MixBoundaryTest::rich,
+            Twins.refused("23: cheapest(" + what + ")", Check::rich,
                     c -> c.cheapest(what), Check.ARGUMENT);
         }
-        Twins.asked("23: cheapest(0)", MixBoundaryTest::rich, c -> c.cheapest(0), 1);
-        Twins.asked("23: cheapest(1)", MixBoundaryTest::rich, c -> c.cheapest(1), 3);
+        Twins.asked("23: cheapest(0)", Check::rich, c -> c.cheapest(0), 1);
+        Twins.asked("23: cheapest(1)", Check::rich, c -> c.cheapest(1), 3);
     }
 }

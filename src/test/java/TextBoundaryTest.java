@@ -34,18 +34,8 @@ public final class TextBoundaryTest {
         Check.end("TextBoundaryTest");
     }
 
-    /** A cube with a mix, acts and USED x, so that a change of any of them is seen. */
-    private static CubeForms rich() {
-        CubeForms x = Check.cube("sides 2 3;cell 1 2:9;");
-        x.edge(2);
-        x.form(4);
-        x.add(1, 0);
-        Check.tellMix(x, "add 1;again 2[sum 0 5;];");
-        return x;
-    }
-
     private static void good(String text, int places) {
-        CubeForms x = rich();
+        CubeForms x = Check.rich();
         int n = Check.put(x, text);
         Twins.answered("3: text " + text, x, c -> c.text(n), places);
         Check.due("3: PLACES of " + text, x.told(1), places);
@@ -58,32 +48,25 @@ public final class TextBoundaryTest {
 
     private static void bad(String text, int kind, int place) {
         Twins.Maker fed = () -> {
-            CubeForms x = rich();
+            CubeForms x = Check.rich();
             Check.put(x, text);
             return x;
         };
         Twins.tapeTaken("3: text " + text, fed, x -> x.text(text.length()), kind - 10, place);
     }
 
-    private static CubeForms fed(int times) {
-        CubeForms x = rich();
-        for (int i = 0; i < times; i++) {
-            x.feed(0x20202020, 0x20202020, 0x20202020, 0x20202020, 0x20202020);
-        }
-        return x;
-    }
-
     private static void feedFillsTheTape() {
         for (int times = 0; times < 20; times++) {
-            Twins.answered("2: feed no. " + times, fed(times), x -> x.feed(0, 0, 0, 0, 0),
+            Twins.answered("2: feed no. " + times, Check.fed(times), x -> x.feed(0, 0, 0, 0, 0),
                     20 * times + 20);
         }
-        Twins.asked("2: feed of 420", () -> fed(20), x -> x.feed(1, 2, 3, 4, 5), CubeForms.NONE);
-        CubeForms x = fed(20);
+        Twins.asked("2: feed of 420", () -> Check.fed(20), x -> x.feed(1, 2, 3, 4, 5),
+                CubeForms.NONE);
+        CubeForms x = Check.fed(20);
         Check.due("2: 400 blanks", x.text(400), -9);
         Check.due("5: at the length", x.fault(), 400);
         Check.due("2: empty again", x.feed(0, 0, 0, 0, 0), 20);
-        CubeForms y = fed(20);
+        CubeForms y = Check.fed(20);
         y.feed(0x73696465, 0x7320323B, 0, 0, 0);
         Check.due("2: nothing of a feed of 420 is there", y.text(400), -9);
     }
@@ -179,7 +162,8 @@ public final class TextBoundaryTest {
         good("sides 16;cell 15:1;", 16);
         bad("sides 16;cell 16:1;", 2, 14);
         good("sides 2 3;cell 0001 0002:1;", 6);
-        CubeForms x = Check.cube("sides 2 3 4;cell 0 0 1:1;cell 0 1 0:2;cell 1 0 0:3;cell 1 2 3:4;");
+        CubeForms x = Check.cube(
+                "sides 2 3 4;cell 0 0 1:1;cell 0 1 0:2;cell 1 0 0:3;cell 1 2 3:4;");
         int[] place = {1, 4, 12, 23};
         for (int i = 0; i < place.length; i++) {
             Check.due("3: the last side is the lowest", x.value(place[i]), i + 1);
@@ -408,12 +392,12 @@ public final class TextBoundaryTest {
     private static void lengthOfATextThatIsNone() {
         for (int times : new int[] {0, 1, 15, 16, 19, 20}) {
             for (int n : new int[] {-1, -2, 20 * times + 1, 20 * times + 20, 401, MOST, LEAST}) {
-                Twins.refused("3: text(" + n + ") of " + 20 * times, () -> fed(times),
+                Twins.refused("3: text(" + n + ") of " + 20 * times, () -> Check.fed(times),
                         x -> x.text(n), Check.ARGUMENT);
             }
-            Twins.tapeTaken("3: text of all", () -> fed(times), x -> x.text(20 * times), -9,
+            Twins.tapeTaken("3: text of all", () -> Check.fed(times), x -> x.text(20 * times), -9,
                     20 * times);
-            Twins.tapeTaken("3: text(0)", () -> fed(times), x -> x.text(0), -9, 0);
+            Twins.tapeTaken("3: text(0)", () -> Check.fed(times), x -> x.text(0), -9, 0);
         }
     }
 
