@@ -402,8 +402,10 @@ public final class CubeForms {
 
             int written(Cube c, int s, int x) {
                 int count = 0;
-                for (int i = x + 1; i <= c.length[s]; i += i & -i) {
-                    count++;
+                for (int end = x; end < c.length[s]; end++) {
+                    if (low(c, end, false) <= x) {
+                        count++;
+                    }
                 }
                 return count;
             }
